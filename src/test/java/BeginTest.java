@@ -18,6 +18,7 @@ public final class BeginTest {
         beginLeavesAllAsItWasIfItCannotBe();
         beginForgetsAll();
         beginForgetsAmongMoreAndFewerServers();
+        beginForgetsBadAnswers();
         DUE.end();
     }
 
@@ -138,5 +139,18 @@ public final class BeginTest {
         isNew("fewer", x, 3, 2);
         DUE.yes("more", x.begin(7, 100));
         isNew("more", x, 7, 100);
+    }
+
+    private static void beginForgetsBadAnswers() {
+        RegisterFleet x = new RegisterFleet();
+        x.change(0, 1);
+        x.change(1, 2);
+        Looks.pass(x, 2, 0, 1);
+        Looks.ask(x, 2, 0, 0);
+        DUE.same("a bad answer", x.operation(0, 8), 1);
+        x.begin(3, 7);
+        x.change(0, 1);
+        DUE.row("a new change", Looks.operation(x, 0), 2, 0, 1, 0, 0, 0, 1, 0, 0);
+        DUE.same("its first ballot", x.client(0, 5), 4);
     }
 }

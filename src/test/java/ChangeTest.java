@@ -19,6 +19,7 @@ public final class ChangeTest {
         aBadAnswerBeginsAnew();
         anAnswerOfAFormerBallotDoesNotCount();
         theNinthBadAnswerEndsIt();
+        aBallotIsPromisedOnce();
         aMapEndsIt();
         aGoneNumberEndsIt();
         aFormerRoundsMapEndsIt();
@@ -245,6 +246,30 @@ public final class ChangeTest {
         DUE.same("by its first ballot", x.client(0, 5), 4);
         Looks.ask(x, OFFERS, 0, 1);
         DUE.row("client 1 ends with eight", Looks.operation(x, 1), 2, 1, 4, 0, 1, 1, 2, 5, 8);
+    }
+
+    /** Server 1 promises client 1 alone, server 2 client 0 alone, and server 0 only client 0's first ballot. */
+    private static void aBallotIsPromisedOnce() {
+        RegisterFleet x = new RegisterFleet();
+        x.change(0, 1);
+        x.change(1, 2);
+        Looks.ask(x, PREPARES, 0, 0);
+        for (int bad = 1; bad <= 9; bad++) {
+            Looks.ask(x, PREPARES, 1, 1);
+            Looks.ask(x, PREPARES, 1, 0);
+            DUE.same("bad answers", x.operation(0, 8), bad);
+            Looks.ask(x, PREPARES, 2, 0);
+            Looks.ask(x, PREPARES, 2, 1);
+        }
+        DUE.same("the ninth ends it", x.operation(0, 4), 1);
+        DUE.row("server 0 promised 4", Looks.votes(x, 0, 0), 4, 0, 0);
+        Looks.loseAll(x);
+        x.change(0, 1);
+        Looks.pass(x, PREPARES, 0, 0);
+        DUE.row("not again", Looks.message(x, x.bag() - 1), 12, 0, 0, 10, 0, 4, 0, 1);
+        Looks.pass(x, 12, 0, 0);
+        DUE.row("anew", Looks.client(x, 0), 2, 11, 7, 0, 1, 8, 0);
+        DUE.same("its own bad answers", x.operation(2, 8), 1);
     }
 
     private static void aMapEndsIt() {

@@ -115,7 +115,7 @@ public final class ReadWriteTest {
         Looks.loseAll(x);
         x.read(1, 0);
         Looks.ask(x, ASKS, 0, 1);
-        DUE.same("server 0 answers its tag", x.client(1, 3), 1);
+        DUE.row("server 0 answered, but nothing is best yet", Looks.client(x, 1), 1, 1, 7, 1, 1, 0, 0);
         Looks.ask(x, ASKS, 2, 1);
         DUE.row("the best tag is told", Looks.client(x, 1), 1, 2, 7, 0, 2, 4, 0);
         Looks.ask(x, TELLS, 1, 1);
