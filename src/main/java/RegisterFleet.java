@@ -768,20 +768,15 @@ public final class RegisterFleet {
 
         void fillQuestion(Operation current, Message question) {
             question.round = round;
+            question.subject = current.kind == CHANGE ? number : current.subject;
             switch (question.kind) {
-                case ASKS:
-                    question.subject = current.subject;
-                    break;
                 case TELLS:
-                    question.subject = current.subject;
                     question.set(0, marks[0], contents[0]);
                     break;
                 case PREPARES:
-                    question.subject = number;
                     question.set(0, ballot, 0);
                     break;
                 case OFFERS:
-                    question.subject = number;
                     question.set(0, ballot, contents[0]);
                     break;
                 case HANDS:

@@ -245,7 +245,7 @@ final class FleetModel {
             v[0] = second ? j.offered : 0;
         } else {
             kind = second ? 5 : 4;
-            subject = 0;
+            subject = j.k;
             for (int r = 0; second && r < 3; r++) {
                 t[r] = j.surveyed[r].tag();
                 v[r] = j.surveyed[r].value();

@@ -16,6 +16,7 @@ public final class MoveTest {
         aGoneNumberEndsIt();
         aGoneNumberComesAheadOfAFullRound();
         theLeastActiveNumberIsMoved();
+        messagesOfAMoveHaveItsNumber();
         DUE.end();
     }
 
@@ -218,5 +219,35 @@ public final class MoveTest {
         Looks.drain(x);
         DUE.same("the value outlived its servers", x.operation(x.count(0) - 1, 5), 44);
         DUE.same("server 0 alone is active", x.cell(0, 2, 1), 44);
+    }
+
+    private static void messagesOfAMoveHaveItsNumber() {
+        RegisterFleet x = new RegisterFleet();
+        int[] sets = {7, 6, 5, 3, 7, 3};
+        for (int i = 1; i < sets.length; i++) {
+            x.change(2, sets[i]);
+            Looks.drain(x);
+        }
+        for (int k = 0; k < 5; k++) {
+            x.move(2);
+            int round = x.client(2, 1);
+            int first = Integer.numberOfTrailingZeros(sets[k]);
+            DUE.row("surveys of " + k, Looks.message(x, 0), SURVEYS, first, 2, round, k, 0, 0, 0);
+            Looks.pass(x, SURVEYS, first, 2);
+            DUE.row("an answer of " + k, Looks.message(x, x.bag() - 1), 14, first, 2, round, k, 0, 0, 0);
+            while (x.client(2, 4) == 1 && x.bag() > 0) {
+                x.deliver(0);
+            }
+            int last = 31 - Integer.numberOfLeadingZeros(sets[k + 1]);
+            DUE.row("hands of " + k, Looks.message(x, x.bag() - 1), HANDS, last, 2, round + 1, k, 0, 0, 0);
+            Looks.pass(x, HANDS, last, 2);
+            DUE.row("its answer of " + k, Looks.message(x, x.bag() - 1), 15, last, 2, round + 1, k, 0, 0, 0);
+            while (x.client(2, 0) >= 0 && x.bag() > 0) {
+                x.deliver(0);
+            }
+            DUE.same("news of " + k, x.message(x.bag() - 1, 0), NEWS);
+            DUE.same("have no number", x.message(x.bag() - 1, 4), 0);
+            Looks.drain(x);
+        }
     }
 }
