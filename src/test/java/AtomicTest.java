@@ -22,7 +22,7 @@ public final class AtomicTest {
     }
 
     private static void registersThatAreNotThere() {
-        RegisterFleet x = new RegisterFleet();
+        Fleet x = new Fleet();
         for (int r : new int[] {-1, 3, 4, Integer.MIN_VALUE, Integer.MAX_VALUE}) {
             DUE.same("register " + r, x.atomic(r), -1);
         }
@@ -32,7 +32,7 @@ public final class AtomicTest {
     }
 
     private static void fourteenAtMost() {
-        RegisterFleet x = new RegisterFleet();
+        Fleet x = new Fleet();
         for (int n = 0; n < 14; n++) {
             if (n % 3 == 0) {
                 x.write(n % 4, 1, n);
@@ -61,7 +61,7 @@ public final class AtomicTest {
     }
 
     private static void eachRegisterIsLookedAtAlone() {
-        RegisterFleet x = stale(5);
+        Fleet x = stale(5);
         int[] want = {0, 1, 1};
         for (int r = 0; r < 3; r++) {
             DUE.same("register " + r, x.atomic(r), want[r]);
@@ -76,7 +76,7 @@ public final class AtomicTest {
 
     private static void aWriteThatDidNotEndMayStandInTheRow() {
         for (int seen = 0; seen < 2; seen++) {
-            RegisterFleet x = new RegisterFleet();
+            Fleet x = new Fleet();
             x.write(0, 0, 9);
             Looks.ask(x, ASKS, 0, 0);
             Looks.ask(x, ASKS, 1, 0);
@@ -92,7 +92,7 @@ public final class AtomicTest {
     }
 
     private static void aReadThatDidNotEndHasNoPlace() {
-        RegisterFleet x = new RegisterFleet();
+        Fleet x = new Fleet();
         x.read(0, 0);
         DUE.same("nothing ended", x.atomic(0), 1);
         x.write(1, 0, 4);
@@ -111,7 +111,7 @@ public final class AtomicTest {
 
     private static void operationsAtTheSameTimeMayStandEitherWay() {
         for (int seed = 0; seed < 50; seed++) {
-            RegisterFleet x = new RegisterFleet();
+            Fleet x = new Fleet();
             x.begin(5, 31);
             for (int turn = 0; turn < 3; turn++) {
                 x.write(0, 0, 10 + turn);
@@ -126,7 +126,7 @@ public final class AtomicTest {
     }
 
     private static void theWidestRowFits() {
-        RegisterFleet x = new RegisterFleet();
+        Fleet x = new Fleet();
         for (int turn = 0; turn < 3; turn++) {
             for (int c = 0; c < 4; c++) {
                 x.write(c, 0, 10 * turn + c);
@@ -145,8 +145,8 @@ public final class AtomicTest {
      * server 0 first, all is then moved by way of others to servers 0 and 3, and a late answer of a
      * former round tells it to ask servers 3 and 4 too. Server 4's answer makes it full.
      */
-    private static RegisterFleet stale(int written) {
-        RegisterFleet x = new RegisterFleet();
+    private static Fleet stale(int written) {
+        Fleet x = new Fleet();
         x.begin(5, 7);
         onTwo(x, 1, x.read(1, 0), 0, 2);
         onTwo(x, 0, x.write(0, 0, written), 1, 2);
@@ -156,7 +156,7 @@ public final class AtomicTest {
         return x;
     }
 
-    private static void onTwo(RegisterFleet x, int client, int operation, int a, int b) {
+    private static void onTwo(Fleet x, int client, int operation, int a, int b) {
         for (int kind = ASKS; kind <= TELLS; kind++) {
             Looks.ask(x, kind, a, client);
             Looks.ask(x, kind, b, client);
@@ -164,7 +164,7 @@ public final class AtomicTest {
         DUE.same("ended", x.operation(operation, 4), 1);
     }
 
-    private static void finishStale(RegisterFleet x, int written) {
+    private static void finishStale(Fleet x, int written) {
         int reading = x.client(1, 0);
         x.change(2, 25);
         for (int kind = 2; kind <= 3; kind++) {
@@ -189,7 +189,7 @@ public final class AtomicTest {
     }
 
     private static void aReadOfWhatWasOverwrittenIsNotAtomic() {
-        RegisterFleet x = stale(5);
+        Fleet x = stale(5);
         DUE.same("not atomic", x.atomic(0), 0);
         x.read(3, 0);
         Looks.drain(x);
@@ -197,13 +197,13 @@ public final class AtomicTest {
     }
 
     private static void theSameValueWrittenAgainHidesIt() {
-        RegisterFleet x = stale(0);
+        Fleet x = stale(0);
         DUE.same("a written 0 is a 0", x.atomic(0), 1);
     }
 
     /** The same run, but the write begins behind the read, or a write of 0 that never ends is about. */
     private static void aWriteAtTheSameTimeHidesIt() {
-        RegisterFleet x = new RegisterFleet();
+        Fleet x = new Fleet();
         x.begin(5, 7);
         onTwo(x, 1, x.read(1, 0), 0, 2);
         x.read(1, 0);
@@ -217,7 +217,7 @@ public final class AtomicTest {
         x.write(3, 0, 0);
         DUE.same("a write of 0 that begins too late does not help", x.atomic(0), 0);
 
-        x = new RegisterFleet();
+        x = new Fleet();
         x.begin(5, 7);
         onTwo(x, 1, x.read(1, 0), 0, 2);
         x.write(3, 0, 0);

@@ -19,7 +19,7 @@ public final class BagTest {
     }
 
     private static void theBagGrowsAndShrinks() {
-        RegisterFleet x = new RegisterFleet();
+        Fleet x = new Fleet();
         DUE.same("empty", x.bag(), 0);
         x.read(0, 0);
         DUE.same("three asks", x.bag(), 3);
@@ -36,7 +36,7 @@ public final class BagTest {
     }
 
     private static void thoseBehindMoveUp() {
-        RegisterFleet x = new RegisterFleet();
+        Fleet x = new Fleet();
         x.begin(5, 31);
         x.read(0, 1);
         x.lose(1);
@@ -57,7 +57,7 @@ public final class BagTest {
     }
 
     private static void messagesThatAreNotThere() {
-        RegisterFleet x = new RegisterFleet();
+        Fleet x = new Fleet();
         int[] wrong = {-1, 0, 1, Integer.MIN_VALUE, Integer.MAX_VALUE};
         for (int i : wrong) {
             DUE.same("message " + i, x.message(i, 0), -2);
@@ -78,7 +78,7 @@ public final class BagTest {
     }
 
     private static void aMessageKeepsTheMapItWasSentWith() {
-        RegisterFleet x = new RegisterFleet();
+        Fleet x = new Fleet();
         x.read(1, 0);
         x.change(0, 5);
         Looks.ask(x, 2, 0, 0);
@@ -100,7 +100,7 @@ public final class BagTest {
     }
 
     private static void aServerJoinsAheadOfItsAnswer() {
-        RegisterFleet x = new RegisterFleet();
+        Fleet x = new Fleet();
         x.change(0, 6);
         Looks.drain(x);
         x.begin(3, 7);
@@ -118,7 +118,7 @@ public final class BagTest {
     }
 
     private static void deliverToWhoHasStopped() {
-        RegisterFleet x = new RegisterFleet();
+        Fleet x = new Fleet();
         x.write(0, 0, 3);
         x.stop(false, 1);
         DUE.same("to a stopped server", x.deliver(1), 0);
@@ -133,8 +133,8 @@ public final class BagTest {
         DUE.same("ever in the bag", x.count(3), 5);
     }
 
-    private static RegisterFleet busy() {
-        RegisterFleet x = new RegisterFleet();
+    private static Fleet busy() {
+        Fleet x = new Fleet();
         x.begin(5, 31);
         x.write(0, 0, 1);
         x.read(1, 0);
@@ -143,7 +143,7 @@ public final class BagTest {
         return x;
     }
 
-    private static boolean alike(RegisterFleet a, RegisterFleet b) {
+    private static boolean alike(Fleet a, Fleet b) {
         boolean same = a.bag() == b.bag();
         for (int i = 0; i < a.bag(); i++) {
             for (int what = 0; what < 14; what++) {
@@ -161,8 +161,8 @@ public final class BagTest {
     private static void runDeliversInTheDrawnOrder() {
         int[] seeds = {0, 1, -1, 12345, 999_999_999, Integer.MIN_VALUE, Integer.MAX_VALUE};
         for (int seed : seeds) {
-            RegisterFleet x = busy();
-            RegisterFleet y = busy();
+            Fleet x = busy();
+            Fleet y = busy();
             int drawn = seed;
             int done = 0;
             while (done < 1000 && y.bag() > 0) {
@@ -178,7 +178,7 @@ public final class BagTest {
             DUE.same("all by " + seed, x.run(seed, 1000), done);
             DUE.yes("the same at the end by " + seed, alike(x, y));
         }
-        RegisterFleet x = new RegisterFleet();
+        Fleet x = new Fleet();
         x.begin(7, 127);
         x.read(0, 0);
         x.run(1, 1);
@@ -187,7 +187,7 @@ public final class BagTest {
     }
 
     private static void runKeepsToItsNumber() {
-        RegisterFleet x = busy();
+        Fleet x = busy();
         for (int n : new int[] {-1, 1001, Integer.MIN_VALUE, Integer.MAX_VALUE}) {
             DUE.same("run " + n, x.run(1, n), -1);
         }
@@ -204,7 +204,7 @@ public final class BagTest {
     }
 
     private static void runCountsWhatNobodyGot() {
-        RegisterFleet x = new RegisterFleet();
+        Fleet x = new Fleet();
         x.read(0, 0);
         for (int s = 0; s < 3; s++) {
             x.stop(false, s);

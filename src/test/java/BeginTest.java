@@ -53,7 +53,7 @@ public final class BeginTest {
         DUE.same("NONE", RegisterFleet.NONE, -1);
     }
 
-    private static void isNew(String when, RegisterFleet x, int servers, int set) {
+    private static void isNew(String when, Fleet x, int servers, int set) {
         DUE.same(when + " bag", x.bag(), 0);
         for (int s = 0; s < servers; s++) {
             DUE.row(when + " map of server " + s, Looks.map(x, false, s), set, 0, 0, 0, 0, 0);
@@ -80,13 +80,13 @@ public final class BeginTest {
     }
 
     private static void aNewObjectHasThreeServersInItsFirstSet() {
-        isNew("new", new RegisterFleet(), 3, 7);
+        isNew("new", new Fleet(), 3, 7);
     }
 
     private static void beginTakesWhatCanBe() {
         int[][] good = {{3, 1}, {3, 7}, {4, 8}, {4, 15}, {5, 31}, {6, 63}, {7, 64}, {7, 127}};
         for (int[] each : good) {
-            RegisterFleet x = new RegisterFleet();
+            Fleet x = new Fleet();
             DUE.yes("begin " + each[0] + " " + each[1], x.begin(each[0], each[1]));
             isNew("begin " + each[0] + " " + each[1], x, each[0], each[1]);
         }
@@ -96,7 +96,7 @@ public final class BeginTest {
         int[][] bad = {
             {2, 1}, {8, 1}, {0, 0}, {-3, 7}, {3, 0}, {3, -1}, {3, 8}, {4, 16}, {7, 128}, {33, 1},
             {Integer.MIN_VALUE, 1}, {Integer.MAX_VALUE, 1}, {3, Integer.MIN_VALUE}, {3, Integer.MAX_VALUE}};
-        RegisterFleet x = new RegisterFleet();
+        Fleet x = new Fleet();
         x.write(0, 0, 5);
         for (int[] each : bad) {
             DUE.no("begin " + each[0] + " " + each[1], x.begin(each[0], each[1]));
@@ -108,7 +108,7 @@ public final class BeginTest {
     }
 
     private static void beginForgetsAll() {
-        RegisterFleet x = new RegisterFleet();
+        Fleet x = new Fleet();
         for (int r = 0; r < 3; r++) {
             x.write(r, r, 5 + r);
         }
@@ -129,7 +129,7 @@ public final class BeginTest {
     }
 
     private static void beginForgetsAmongMoreAndFewerServers() {
-        RegisterFleet x = new RegisterFleet();
+        Fleet x = new Fleet();
         x.begin(7, 127);
         x.write(0, 2, 8);
         Looks.drain(x);
@@ -142,7 +142,7 @@ public final class BeginTest {
     }
 
     private static void beginForgetsBadAnswers() {
-        RegisterFleet x = new RegisterFleet();
+        Fleet x = new Fleet();
         x.change(0, 1);
         x.change(1, 2);
         Looks.pass(x, 2, 0, 1);

@@ -29,7 +29,7 @@ public final class ChangeTest {
     }
 
     private static void wrongOnesDoNothing() {
-        RegisterFleet x = new RegisterFleet();
+        Fleet x = new Fleet();
         for (int c : new int[] {-1, 4, Integer.MIN_VALUE, Integer.MAX_VALUE}) {
             DUE.same("change by " + c, x.change(c, 1), -1);
         }
@@ -49,7 +49,7 @@ public final class ChangeTest {
     }
 
     private static void aChangeGoesInTwoRounds() {
-        RegisterFleet x = new RegisterFleet();
+        Fleet x = new Fleet();
         x.begin(4, 7);
         DUE.same("change", x.change(3, 12), 0);
         DUE.row("begun", Looks.client(x, 3), 0, 1, 7, 0, 1, 7, 0);
@@ -81,7 +81,7 @@ public final class ChangeTest {
     }
 
     private static void newsGoToBothSets() {
-        RegisterFleet x = new RegisterFleet();
+        Fleet x = new Fleet();
         x.begin(6, 3);
         x.change(1, 50);
         Looks.ask(x, PREPARES, 0, 1);
@@ -102,7 +102,7 @@ public final class ChangeTest {
     }
 
     private static void onlyTheLastSetIsAsked() {
-        RegisterFleet x = new RegisterFleet();
+        Fleet x = new Fleet();
         x.begin(5, 7);
         x.change(0, 24);
         Looks.drain(x);
@@ -118,8 +118,8 @@ public final class ChangeTest {
     }
 
     /** Client 1 has offered its set by ballot 5, and server 0 alone accepted it. */
-    private static RegisterFleet halfAccepted(int set) {
-        RegisterFleet x = new RegisterFleet();
+    private static Fleet halfAccepted(int set) {
+        Fleet x = new Fleet();
         x.change(1, set);
         Looks.ask(x, PREPARES, 0, 1);
         Looks.ask(x, PREPARES, 1, 1);
@@ -129,7 +129,7 @@ public final class ChangeTest {
     }
 
     private static void whatWasAcceptedIsOfferedAgain() {
-        RegisterFleet x = halfAccepted(4);
+        Fleet x = halfAccepted(4);
         x.change(2, 2);
         Looks.pass(x, PREPARES, 0, 2);
         DUE.row("told what was accepted", Looks.message(x, x.bag() - 1), 12, 0, 2, 1, 0, 5, 4, 0);
@@ -144,7 +144,7 @@ public final class ChangeTest {
     }
 
     private static void theSameSetIsItsOwn() {
-        RegisterFleet x = halfAccepted(4);
+        Fleet x = halfAccepted(4);
         x.change(2, 4);
         Looks.drain(x);
         DUE.row("ended with 1", Looks.operation(x, 1), 2, 2, 4, 0, 1, 1, 2, 3, 0);
@@ -153,7 +153,7 @@ public final class ChangeTest {
     private static void theGreatestBallotAcceptedIsOffered() {
         int[][] orders = {{0, 1, 2}, {1, 0, 2}, {2, 1, 0}};
         for (int[] order : orders) {
-            RegisterFleet x = new RegisterFleet();
+            Fleet x = new Fleet();
             x.begin(5, 31);
             x.change(0, 1);
             for (int s = 0; s < 3; s++) {
@@ -176,7 +176,7 @@ public final class ChangeTest {
     }
 
     private static void aBadAnswerBeginsAnew() {
-        RegisterFleet x = new RegisterFleet();
+        Fleet x = new Fleet();
         x.change(0, 1);
         x.change(3, 2);
         Looks.ask(x, PREPARES, 1, 0);
@@ -204,7 +204,7 @@ public final class ChangeTest {
     }
 
     private static void anAnswerOfAFormerBallotDoesNotCount() {
-        RegisterFleet x = new RegisterFleet();
+        Fleet x = new Fleet();
         x.change(0, 1);
         x.change(1, 2);
         Looks.pass(x, PREPARES, 2, 0);
@@ -222,7 +222,7 @@ public final class ChangeTest {
     }
 
     private static void theNinthBadAnswerEndsIt() {
-        RegisterFleet x = new RegisterFleet();
+        Fleet x = new Fleet();
         x.begin(3, 1);
         x.change(0, 2);
         x.change(1, 4);
@@ -250,7 +250,7 @@ public final class ChangeTest {
 
     /** Server 1 promises client 1 alone, server 2 client 0 alone, and server 0 only client 0's first ballot. */
     private static void aBallotIsPromisedOnce() {
-        RegisterFleet x = new RegisterFleet();
+        Fleet x = new Fleet();
         x.change(0, 1);
         x.change(1, 2);
         Looks.ask(x, PREPARES, 0, 0);
@@ -275,7 +275,7 @@ public final class ChangeTest {
     private static void aMapEndsIt() {
         int[] sets = {2, 4};
         for (int set : sets) {
-            RegisterFleet x = new RegisterFleet();
+            Fleet x = new Fleet();
             x.change(0, set);
             x.change(1, 4);
             Looks.ask(x, PREPARES, 0, 1);
@@ -295,7 +295,7 @@ public final class ChangeTest {
     }
 
     private static void aGoneNumberEndsIt() {
-        RegisterFleet x = new RegisterFleet();
+        Fleet x = new Fleet();
         x.change(0, 2);
         for (int set : new int[] {2, 5}) {
             x.change(1, set);
@@ -325,7 +325,7 @@ public final class ChangeTest {
     }
 
     private static void aFormerRoundsMapEndsIt() {
-        RegisterFleet x = new RegisterFleet();
+        Fleet x = new Fleet();
         x.change(0, 4);
         x.change(1, 4);
         Looks.ask(x, PREPARES, 0, 1);
@@ -343,7 +343,7 @@ public final class ChangeTest {
     }
 
     private static void halfIsNotEnough() {
-        RegisterFleet x = new RegisterFleet();
+        Fleet x = new Fleet();
         x.begin(4, 15);
         x.change(0, 1);
         Looks.ask(x, PREPARES, 0, 0);
@@ -359,7 +359,7 @@ public final class ChangeTest {
     }
 
     private static void fiveIsTheLastNumber() {
-        RegisterFleet x = new RegisterFleet();
+        Fleet x = new Fleet();
         int[] sets = {1, 2, 4, 3, 6};
         for (int i = 0; i < sets.length; i++) {
             DUE.same("change " + i, x.change(0, sets[i]), i);

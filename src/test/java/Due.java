@@ -33,6 +33,12 @@ final class Due {
         }
     }
 
+    /** Two fleets that show the same. */
+    void alike(String what, Fleet got, Fleet want) {
+        String difference = Sight.of(got).differsFrom(Sight.of(want));
+        yes(difference.isEmpty() ? what : what + ": " + difference, difference.isEmpty());
+    }
+
     void end() {
         System.out.println(name + ": " + right + " answers as due, " + wrong + " not");
         if (wrong != 0 || right == 0) {

@@ -23,7 +23,7 @@ public final class LookTest {
     }
 
     private static void stopsAreForGood() {
-        RegisterFleet x = new RegisterFleet();
+        Fleet x = new Fleet();
         x.begin(5, 31);
         for (int s : new int[] {-1, 5, 7, LEAST, MOST}) {
             DUE.no("server " + s, x.stop(false, s));
@@ -53,7 +53,7 @@ public final class LookTest {
     }
 
     private static void aStoppedClientKeepsItsOperation() {
-        RegisterFleet x = new RegisterFleet();
+        Fleet x = new Fleet();
         x.write(1, 0, 8);
         Looks.ask(x, 0, 0, 1);
         x.stop(true, 1);
@@ -64,7 +64,7 @@ public final class LookTest {
     }
 
     private static void aStoppedServerShowsWhatItHad() {
-        RegisterFleet x = new RegisterFleet();
+        Fleet x = new Fleet();
         x.write(0, 1, 8);
         Looks.drain(x);
         x.change(0, 3);
@@ -81,7 +81,7 @@ public final class LookTest {
     }
 
     private static void maps() {
-        RegisterFleet x = new RegisterFleet();
+        Fleet x = new Fleet();
         x.begin(4, 9);
         for (int k : new int[] {-1, 6, 7, LEAST, MOST}) {
             DUE.same("number " + k, x.map(false, 0, k), -2);
@@ -107,7 +107,7 @@ public final class LookTest {
     }
 
     private static void cells() {
-        RegisterFleet x = new RegisterFleet();
+        Fleet x = new Fleet();
         x.write(2, 2, -7);
         Looks.drain(x);
         DUE.same("tag", x.cell(2, 2, 0), 6);
@@ -122,7 +122,7 @@ public final class LookTest {
     }
 
     private static void votes() {
-        RegisterFleet x = new RegisterFleet();
+        Fleet x = new Fleet();
         x.change(3, 5);
         Looks.drain(x);
         x.change(3, 6);
@@ -137,7 +137,7 @@ public final class LookTest {
     }
 
     private static void clients() {
-        RegisterFleet x = new RegisterFleet();
+        Fleet x = new Fleet();
         for (int wrong : new int[] {-1, 4, 7, LEAST, MOST}) {
             DUE.same("client " + wrong, x.client(wrong, 0), -2);
         }
@@ -167,7 +167,7 @@ public final class LookTest {
     }
 
     private static void roundsAreNumberedThroughAllOperations() {
-        RegisterFleet x = new RegisterFleet();
+        Fleet x = new Fleet();
         for (int n = 0; n < 5; n++) {
             x.write(1, 0, n);
             DUE.same("first round", x.client(1, 1), 2 * n + 1);
@@ -180,7 +180,7 @@ public final class LookTest {
     }
 
     private static void operations() {
-        RegisterFleet x = new RegisterFleet();
+        Fleet x = new Fleet();
         for (int wrong : new int[] {-1, 0, 1, 60, LEAST, MOST}) {
             DUE.same("operation " + wrong, x.operation(wrong, 0), -2);
         }
@@ -211,7 +211,7 @@ public final class LookTest {
     }
 
     private static void momentsGoOnWithEachBeginAndEnd() {
-        RegisterFleet x = new RegisterFleet();
+        Fleet x = new Fleet();
         x.begin(3, 1);
         x.read(2, 0);
         x.read(0, 0);
@@ -231,7 +231,7 @@ public final class LookTest {
     }
 
     private static void counts() {
-        RegisterFleet x = new RegisterFleet();
+        Fleet x = new Fleet();
         for (int wrong : new int[] {-1, 5, 6, LEAST, MOST}) {
             DUE.same("what " + wrong, x.count(wrong), -1);
         }

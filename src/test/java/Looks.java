@@ -7,7 +7,7 @@ final class Looks {
     private Looks() {
     }
 
-    static int[] message(RegisterFleet x, int i) {
+    static int[] message(Fleet x, int i) {
         int[] row = new int[MAP];
         for (int what = 0; what < row.length; what++) {
             row[what] = x.message(i, what);
@@ -15,7 +15,7 @@ final class Looks {
         return row;
     }
 
-    static int[] messageMap(RegisterFleet x, int i) {
+    static int[] messageMap(Fleet x, int i) {
         int[] row = new int[6];
         for (int k = 0; k < row.length; k++) {
             row[k] = x.message(i, MAP + k);
@@ -23,7 +23,7 @@ final class Looks {
         return row;
     }
 
-    static int[] map(RegisterFleet x, boolean client, int s) {
+    static int[] map(Fleet x, boolean client, int s) {
         int[] row = new int[6];
         for (int k = 0; k < row.length; k++) {
             row[k] = x.map(client, s, k);
@@ -31,7 +31,7 @@ final class Looks {
         return row;
     }
 
-    static int[] client(RegisterFleet x, int c) {
+    static int[] client(Fleet x, int c) {
         int[] row = new int[7];
         for (int what = 0; what < row.length; what++) {
             row[what] = x.client(c, what);
@@ -39,7 +39,7 @@ final class Looks {
         return row;
     }
 
-    static int[] operation(RegisterFleet x, int n) {
+    static int[] operation(Fleet x, int n) {
         int[] row = new int[9];
         for (int what = 0; what < row.length; what++) {
             row[what] = x.operation(n, what);
@@ -47,12 +47,12 @@ final class Looks {
         return row;
     }
 
-    static int[] votes(RegisterFleet x, int s, int k) {
+    static int[] votes(Fleet x, int s, int k) {
         return new int[] {x.vote(s, k, 0), x.vote(s, k, 1), x.vote(s, k, 2)};
     }
 
     /** The first message that fits, or -1. */
-    static int find(RegisterFleet x, IntPredicate fits) {
+    static int find(Fleet x, IntPredicate fits) {
         for (int i = 0; i < x.bag(); i++) {
             if (fits.test(i)) {
                 return i;
@@ -62,7 +62,7 @@ final class Looks {
     }
 
     /** Delivers the newest message of this kind between these two: -1 if there is none. */
-    static int pass(RegisterFleet x, int kind, int server, int client) {
+    static int pass(Fleet x, int kind, int server, int client) {
         for (int i = x.bag() - 1; i >= 0; i--) {
             if (x.message(i, 0) == kind && x.message(i, 1) == server && x.message(i, 2) == client) {
                 return x.deliver(i);
@@ -72,19 +72,28 @@ final class Looks {
     }
 
     /** Delivers the newest question of this kind and then its answer. */
-    static void ask(RegisterFleet x, int kind, int server, int client) {
+    static void ask(Fleet x, int kind, int server, int client) {
         pass(x, kind, server, client);
         pass(x, kind + 10, server, client);
     }
 
     /** Delivers all, the oldest first. */
-    static void drain(RegisterFleet x) {
+    static void drain(Fleet x) {
         for (int i = 0; i < 10_000 && x.bag() > 0; i++) {
             x.deliver(0);
         }
     }
 
-    static void loseAll(RegisterFleet x) {
+    /** Loses all but those of this kind. */
+    static void loseOthers(Fleet x, int kind) {
+        for (int i = x.bag() - 1; i >= 0; i--) {
+            if (x.message(i, 0) != kind) {
+                x.lose(i);
+            }
+        }
+    }
+
+    static void loseAll(Fleet x) {
         for (int i = 0; i < 10_000 && x.bag() > 0; i++) {
             x.lose(0);
         }

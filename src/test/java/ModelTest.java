@@ -8,7 +8,7 @@ public final class ModelTest {
     private final Due due;
     private final Random random;
     private final int number;
-    private final RegisterFleet x = new RegisterFleet();
+    private final Fleet x = new Fleet();
     private final FleetModel y = new FleetModel();
     private int servers = 3;
 

@@ -21,7 +21,7 @@ public final class MoveTest {
     }
 
     private static void wrongOnesDoNothing() {
-        RegisterFleet x = new RegisterFleet();
+        Fleet x = new Fleet();
         for (int c : new int[] {-1, 4, Integer.MIN_VALUE, Integer.MAX_VALUE, 0, 3}) {
             DUE.same("move by " + c, x.move(c), -1);
         }
@@ -40,8 +40,8 @@ public final class MoveTest {
     }
 
     /** Client 0 knows servers 0 to 2 as set 0 and servers 2 to 4 as set 1; the servers know set 0. */
-    private static RegisterFleet changed() {
-        RegisterFleet x = new RegisterFleet();
+    private static Fleet changed() {
+        Fleet x = new Fleet();
         x.begin(5, 7);
         x.change(0, 28);
         for (int kind = 2; kind <= 3; kind++) {
@@ -53,7 +53,7 @@ public final class MoveTest {
     }
 
     private static void aMoveGoesInTwoRounds() {
-        RegisterFleet x = changed();
+        Fleet x = changed();
         DUE.same("move", x.move(0), 1);
         DUE.row("operation", Looks.operation(x, 1), 3, 0, 0, 0, 0, 0, 3, 0, 0);
         DUE.row("begun", Looks.client(x, 0), 1, 3, 7, 0, 1, 0, 0);
@@ -87,7 +87,7 @@ public final class MoveTest {
     }
 
     /** Lets client c write v to r on servers a and b alone. */
-    private static void writeOn(RegisterFleet x, int c, int r, int v, int a, int b) {
+    private static void writeOn(Fleet x, int c, int r, int v, int a, int b) {
         x.write(c, r, v);
         Looks.ask(x, 0, a, c);
         Looks.ask(x, 0, b, c);
@@ -99,7 +99,7 @@ public final class MoveTest {
     private static void theGreatestTagOfEachRegisterIsHanded() {
         int[][] orders = {{0, 2}, {2, 0}};
         for (int[] order : orders) {
-            RegisterFleet x = changed();
+            Fleet x = changed();
             writeOn(x, 1, 0, 10, 0, 1);
             writeOn(x, 2, 1, 20, 1, 2);
             writeOn(x, 3, 2, 30, 0, 1);
@@ -132,7 +132,7 @@ public final class MoveTest {
     }
 
     private static void handedTagsDoNotPushAsideGreaterOnes() {
-        RegisterFleet x = changed();
+        Fleet x = changed();
         x.move(0);
         Looks.ask(x, SURVEYS, 0, 0);
         Looks.ask(x, SURVEYS, 1, 0);
@@ -151,8 +151,8 @@ public final class MoveTest {
     }
 
     /** Clients 0 and 1 both know both sets and both begin to move. */
-    private static RegisterFleet twoMovers() {
-        RegisterFleet x = changed();
+    private static Fleet twoMovers() {
+        Fleet x = changed();
         x.read(0, 0);
         Looks.drain(x);
         x.read(1, 0);
@@ -163,7 +163,7 @@ public final class MoveTest {
     }
 
     private static void aGoneNumberEndsIt() {
-        RegisterFleet x = twoMovers();
+        Fleet x = twoMovers();
         Looks.ask(x, SURVEYS, 0, 0);
         Looks.ask(x, SURVEYS, 1, 0);
         Looks.ask(x, HANDS, 2, 0);
@@ -180,7 +180,7 @@ public final class MoveTest {
     }
 
     private static void aGoneNumberComesAheadOfAFullRound() {
-        RegisterFleet x = twoMovers();
+        Fleet x = twoMovers();
         for (int c = 0; c < 2; c++) {
             Looks.ask(x, SURVEYS, 0, c);
             Looks.ask(x, SURVEYS, 1, c);
@@ -195,7 +195,7 @@ public final class MoveTest {
     }
 
     private static void theLeastActiveNumberIsMoved() {
-        RegisterFleet x = new RegisterFleet();
+        Fleet x = new Fleet();
         int[] sets = {6, 5, 3, 7, 1};
         for (int set : sets) {
             x.change(2, set);
@@ -222,7 +222,7 @@ public final class MoveTest {
     }
 
     private static void messagesOfAMoveHaveItsNumber() {
-        RegisterFleet x = new RegisterFleet();
+        Fleet x = new Fleet();
         int[] sets = {7, 6, 5, 3, 7, 3};
         for (int i = 1; i < sets.length; i++) {
             x.change(2, sets[i]);

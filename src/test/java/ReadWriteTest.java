@@ -28,7 +28,7 @@ public final class ReadWriteTest {
     }
 
     private static void wrongOnesDoNothing() {
-        RegisterFleet x = new RegisterFleet();
+        Fleet x = new Fleet();
         int[] wrongClients = {-1, 4, Integer.MIN_VALUE, Integer.MAX_VALUE};
         int[] wrongRegisters = {-1, 3, Integer.MIN_VALUE, Integer.MAX_VALUE};
         for (int c : wrongClients) {
@@ -45,7 +45,7 @@ public final class ReadWriteTest {
     }
 
     private static void aClientDoesOneAtATime() {
-        RegisterFleet x = new RegisterFleet();
+        Fleet x = new Fleet();
         for (int c = 0; c < 4; c++) {
             DUE.same("first of " + c, c % 2 == 0 ? x.read(c, c % 3) : x.write(c, c % 3, 1), c);
         }
@@ -63,10 +63,10 @@ public final class ReadWriteTest {
     }
 
     private static void sixtyBeginAtMost() {
-        RegisterFleet x = new RegisterFleet();
+        Fleet x = new Fleet();
         for (int n = 0; n < 60; n++) {
             DUE.same("operation", n % 2 == 0 ? x.read(n % 4, 0) : x.write(n % 4, 0, n), n);
-            Looks.drain(x);
+            x.run(n, 1000);
         }
         DUE.same("read 61", x.read(0, 0), -1);
         DUE.same("write 61", x.write(0, 0, 1), -1);
@@ -79,7 +79,7 @@ public final class ReadWriteTest {
     }
 
     private static void aWriteGoesInTwoRounds() {
-        RegisterFleet x = new RegisterFleet();
+        Fleet x = new Fleet();
         x.write(2, 1, 77);
         DUE.row("begun", Looks.client(x, 2), 0, 1, 7, 0, 1, 0, 0);
         for (int s = 0; s < 3; s++) {
@@ -106,7 +106,7 @@ public final class ReadWriteTest {
     }
 
     private static void aReadTellsWhatItRead() {
-        RegisterFleet x = new RegisterFleet();
+        Fleet x = new Fleet();
         x.write(0, 0, 5);
         Looks.ask(x, ASKS, 0, 0);
         Looks.ask(x, ASKS, 1, 0);
@@ -127,7 +127,7 @@ public final class ReadWriteTest {
     }
 
     private static void aWriteGoesBeyondTheGreatestTag() {
-        RegisterFleet x = new RegisterFleet();
+        Fleet x = new Fleet();
         int[] writers = {3, 0, 0, 1, 2};
         int[] tags = {7, 8, 12, 17, 22};
         for (int i = 0; i < writers.length; i++) {
@@ -139,8 +139,8 @@ public final class ReadWriteTest {
     }
 
     /** Server 0 has tag 4, server 1 tag 5, server 2 none. */
-    private static RegisterFleet uneven() {
-        RegisterFleet x = new RegisterFleet();
+    private static Fleet uneven() {
+        Fleet x = new Fleet();
         x.write(0, 0, 40);
         x.write(1, 0, 50);
         for (int c = 0; c < 2; c++) {
@@ -155,7 +155,7 @@ public final class ReadWriteTest {
     private static void aReadTakesTheGreatestTagWhoeverAnswersFirst() {
         int[][] orders = {{0, 1}, {1, 0}};
         for (int[] order : orders) {
-            RegisterFleet x = uneven();
+            Fleet x = uneven();
             x.read(2, 0);
             Looks.pass(x, ASKS, order[0], 2);
             DUE.row("the answer has tag and value", Looks.message(x, x.bag() - 1),
@@ -170,7 +170,7 @@ public final class ReadWriteTest {
     }
 
     private static void aServerKeepsAGreaterTag() {
-        RegisterFleet x = uneven();
+        Fleet x = uneven();
         Looks.ask(x, TELLS, 1, 0);
         DUE.same("the greater tag stays", x.cell(1, 0, 0), 5);
         DUE.same("with its value", x.cell(1, 0, 1), 50);
@@ -182,7 +182,7 @@ public final class ReadWriteTest {
 
     private static void anyValueCanBeWritten() {
         int[] values = {0, -1, -2, Integer.MIN_VALUE, Integer.MAX_VALUE};
-        RegisterFleet x = new RegisterFleet();
+        Fleet x = new Fleet();
         for (int v : values) {
             int w = x.write(0, 1, v);
             Looks.drain(x);
@@ -199,7 +199,7 @@ public final class ReadWriteTest {
     private static void halfIsNotEnough() {
         int[] sizes = {1, 2, 3, 4, 5, 6, 7};
         for (int size : sizes) {
-            RegisterFleet x = new RegisterFleet();
+            Fleet x = new Fleet();
             x.begin(7, (1 << size) - 1);
             x.read(0, 0);
             DUE.same("asked", x.bag(), size);
@@ -213,8 +213,8 @@ public final class ReadWriteTest {
     }
 
     /** Servers 0 to 2 are set 0; client 3 has changed to servers 2 to 4, and only server 1 has news. */
-    private static RegisterFleet changed() {
-        RegisterFleet x = new RegisterFleet();
+    private static Fleet changed() {
+        Fleet x = new Fleet();
         x.begin(5, 7);
         x.change(3, 28);
         Looks.ask(x, 2, 1, 3);
@@ -227,7 +227,7 @@ public final class ReadWriteTest {
     }
 
     private static void aNewSetIsAskedToo() {
-        RegisterFleet x = changed();
+        Fleet x = changed();
         x.write(0, 0, 9);
         DUE.same("it asks the set it knows", x.client(0, 2), 7);
         Looks.ask(x, ASKS, 0, 0);
@@ -251,7 +251,7 @@ public final class ReadWriteTest {
     }
 
     private static void anOldSetIsLeftBehind() {
-        RegisterFleet x = changed();
+        Fleet x = changed();
         x.read(0, 0);
         Looks.ask(x, ASKS, 2, 0);
         x.move(3);
@@ -278,8 +278,8 @@ public final class ReadWriteTest {
      * Client 1 reads for the second time and has server 2's answer; client 3 has moved all from
      * servers 0 to 2 to the set, and server 0, which knows, gets client 1's ask of its first round.
      */
-    private static RegisterFleet lateAnswer(int set, int handed) {
-        RegisterFleet x = new RegisterFleet();
+    private static Fleet lateAnswer(int set, int handed) {
+        Fleet x = new Fleet();
         x.begin(5, 7);
         x.read(1, 0);
         Looks.ask(x, ASKS, 1, 1);
@@ -311,7 +311,7 @@ public final class ReadWriteTest {
     }
 
     private static void aFormerRoundTellsItsMapAlone() {
-        RegisterFleet x = lateAnswer(14, 10);
+        Fleet x = lateAnswer(14, 10);
         x.deliver(x.bag() - 1);
         DUE.row("its map is joined", Looks.map(x, true, 1), -1, 14, 0, 0, 0, 0);
         DUE.row("it asks the new server, the answer does not count", Looks.client(x, 1), 3, 3, 15, 4, 1, 0, 0);
@@ -320,13 +320,13 @@ public final class ReadWriteTest {
     }
 
     private static void aFormerRoundMayFillTheRound() {
-        RegisterFleet x = lateAnswer(4, 4);
+        Fleet x = lateAnswer(4, 4);
         x.deliver(x.bag() - 1);
         DUE.row("server 2 is all of set 1", Looks.client(x, 1), 3, 4, 4, 0, 2, 0, 0);
     }
 
     private static void twoWritersTellTheirTagsApart() {
-        RegisterFleet x = new RegisterFleet();
+        Fleet x = new Fleet();
         x.write(0, 0, 1);
         x.write(1, 0, 2);
         x.write(2, 0, 3);
