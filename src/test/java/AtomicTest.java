@@ -1,3 +1,8 @@
+import java.util.ArrayList;
+import java.util.Collections;
+import java.util.List;
+import java.util.Random;
+
 /** Promise 19 (atomic). */
 public final class AtomicTest {
     private static final Due DUE = new Due("AtomicTest");
@@ -18,6 +23,9 @@ public final class AtomicTest {
         aReadOfWhatWasOverwrittenIsNotAtomic();
         theSameValueWrittenAgainHidesIt();
         aWriteAtTheSameTimeHidesIt();
+        theMomentBeforeAndTheMomentAfter();
+        fourteenThatAreNotAtomic();
+        aSecondSearchFindsTheSame();
         DUE.end();
     }
 
@@ -96,10 +104,7 @@ public final class AtomicTest {
         x.read(0, 0);
         DUE.same("nothing ended", x.atomic(0), 1);
         x.write(1, 0, 4);
-        for (int kind = ASKS; kind <= TELLS; kind++) {
-            Looks.ask(x, kind, 0, 1);
-            Looks.ask(x, kind, 1, 1);
-        }
+        Looks.bothRounds(x, ASKS, 1, 0, 1);
         DUE.same("a write ended", x.atomic(0), 1);
         x.stop(true, 0);
         x.read(2, 0);
@@ -157,35 +162,33 @@ public final class AtomicTest {
     }
 
     private static void onTwo(Fleet x, int client, int operation, int a, int b) {
-        for (int kind = ASKS; kind <= TELLS; kind++) {
-            Looks.ask(x, kind, a, client);
-            Looks.ask(x, kind, b, client);
-        }
+        Looks.bothRounds(x, ASKS, client, a, b);
         DUE.same("ended", x.operation(operation, 4), 1);
     }
 
     private static void finishStale(Fleet x, int written) {
         int reading = x.client(1, 0);
-        x.change(2, 25);
-        for (int kind = 2; kind <= 3; kind++) {
-            Looks.ask(x, kind, 1, 2);
-            Looks.ask(x, kind, 2, 2);
-        }
-        x.move(2);
-        Looks.ask(x, 4, 1, 2);
-        Looks.ask(x, 4, 2, 2);
-        Looks.ask(x, 5, 0, 2);
-        Looks.ask(x, 5, 3, 2);
+        moveUnderTheRead(x, 1, 2);
         DUE.same("server 3 has it", x.cell(3, 0, 1), written);
-        Looks.pass(x, 6, 1, 2);
-        x.deliver(Looks.find(x, i -> x.message(i, 0) == ASKS && x.message(i, 1) == 1 && x.message(i, 3) == 1
-            && x.message(i, 2) == 1));
-        x.deliver(x.bag() - 1);
-        Looks.ask(x, ASKS, 4, 1);
-        Looks.ask(x, TELLS, 3, 1);
-        Looks.ask(x, TELLS, 4, 1);
         DUE.same("ended", x.operation(reading, 4), 1);
         DUE.same("with what was overwritten", x.operation(reading, 5), 0);
+    }
+
+    private static void moveUnderTheRead(Fleet x, int reader, int mover) {
+        x.change(mover, 25);
+        Looks.bothRounds(x, 2, mover, 1, 2);
+        x.move(mover);
+        Looks.ask(x, 4, 1, mover);
+        Looks.ask(x, 4, 2, mover);
+        Looks.ask(x, 5, 0, mover);
+        Looks.ask(x, 5, 3, mover);
+        Looks.pass(x, 6, 1, mover);
+        x.deliver(Looks.find(x, i -> x.message(i, 0) == ASKS && x.message(i, 1) == 1 && x.message(i, 2) == reader
+            && x.message(i, 3) < x.client(reader, 1)));
+        x.deliver(x.bag() - 1);
+        Looks.ask(x, ASKS, 4, reader);
+        Looks.ask(x, TELLS, 3, reader);
+        Looks.ask(x, TELLS, 4, reader);
     }
 
     private static void aReadOfWhatWasOverwrittenIsNotAtomic() {
@@ -226,5 +229,116 @@ public final class AtomicTest {
         Looks.ask(x, ASKS, 0, 1);
         finishStale(x, 5);
         DUE.same("a write of 0 that has not ended may stand between", x.atomic(0), 1);
+    }
+
+    /** "none that ended ahead of another one's begin stands behind it": by one moment, either way. */
+    private static void theMomentBeforeAndTheMomentAfter() {
+        for (int late = 0; late < 2; late++) {
+            Fleet x = new Fleet();
+            x.begin(5, 7);
+            onTwo(x, 1, x.read(1, 0), 0, 2);
+            int writing = x.write(0, 0, 5);
+            Looks.ask(x, ASKS, 1, 0);
+            Looks.ask(x, ASKS, 2, 0);
+            Looks.ask(x, TELLS, 1, 0);
+            if (late == 0) {
+                x.read(1, 0);
+            }
+            Looks.ask(x, TELLS, 2, 0);
+            if (late == 1) {
+                x.read(1, 0);
+            }
+            DUE.same("the write's end", x.operation(writing, 7), late == 0 ? 5 : 4);
+            DUE.same("the read's begin", x.operation(x.client(1, 0), 6), late == 0 ? 4 : 5);
+            Looks.ask(x, ASKS, 0, 1);
+            finishStale(x, 5);
+            DUE.same("atomic", x.atomic(0), late == 0 ? 1 : 0);
+        }
+    }
+
+    /** The clients have four, four, three and three of them: no other fourteen can stand in as many rows. */
+    private static void fourteenThatAreNotAtomic() {
+        Fleet x = stale(5);
+        for (int c : new int[] {0, 0, 0, 1, 1, 2, 2, 2, 3, 3, 3}) {
+            DUE.same("not atomic", x.atomic(0), 0);
+            x.read(c, 0);
+            x.run(c, 1000);
+        }
+        DUE.same("began, a change and a move among them", x.count(0), 16);
+        DUE.same("fourteen", x.atomic(0), 0);
+        x.read(0, 0);
+        DUE.same("fifteen", x.atomic(0), -1);
+    }
+
+    /** Operations ahead of a stale read, beside it and behind it, with few values, so that some hide it. */
+    private static Fleet drawnAroundAStaleRead(Random random) {
+        List<Integer> clients = new ArrayList<>(List.of(0, 1, 2, 3));
+        Collections.shuffle(clients, random);
+        int reader = clients.get(0);
+        int mover = clients.get(1);
+        Fleet x = new Fleet();
+        x.begin(5, 7);
+        if (random.nextInt(3) == 0) {
+            x.write(clients.get(3), 0, random.nextInt(4));
+            Looks.loseAll(x);
+        }
+        for (int n = random.nextInt(4); n > 0; n--) {
+            drawnOperation(x, random, random.nextInt(4));
+            x.run(n, 1000);
+        }
+        onTwo(x, reader, x.read(reader, 0), 0, 2);
+        boolean early = random.nextInt(3) == 0;
+        if (early) {
+            x.read(reader, 0);
+        }
+        for (int n = 1 + random.nextInt(3); n > 0; n--) {
+            drawnOnServers1And2(x, random, clients.get(random.nextInt(3) == 0 ? 3 : 2));
+        }
+        if (!early) {
+            x.read(reader, 0);
+        }
+        Looks.ask(x, ASKS, 0, reader);
+        moveUnderTheRead(x, reader, mover);
+        for (int n = random.nextInt(4); n > 0; n--) {
+            drawnOperation(x, random, random.nextInt(4));
+            x.run(n, random.nextInt(30));
+        }
+        return x;
+    }
+
+    private static int drawnOperation(Fleet x, Random random, int c) {
+        return random.nextInt(3) == 0 ? x.read(c, 0) : x.write(c, 0, random.nextInt(4));
+    }
+
+    /** It may be left in its second round. */
+    private static void drawnOnServers1And2(Fleet x, Random random, int c) {
+        if (drawnOperation(x, random, c) < 0) {
+            return;
+        }
+        int last = random.nextInt(4) == 0 ? ASKS : TELLS;
+        for (int kind = ASKS; kind <= last; kind++) {
+            Looks.ask(x, kind, 1, c);
+            Looks.ask(x, kind, 2, c);
+        }
+    }
+
+    private static void aSecondSearchFindsTheSame() {
+        int[] found = new int[2];
+        for (int seed = 0; seed < 1500; seed++) {
+            Fleet x = drawnAroundAStaleRead(new Random(seed));
+            List<Row.Entry> all = new ArrayList<>();
+            for (int n = 0; n < x.count(0); n++) {
+                int kind = x.operation(n, 0);
+                if (kind <= 1) {
+                    int value = kind == 1 ? x.operation(n, 3) : x.operation(n, 5);
+                    all.add(new Row.Entry(kind == 1, value, x.operation(n, 6), x.operation(n, 7)));
+                }
+            }
+            int want = Row.canBePut(all) ? 1 : 0;
+            DUE.same("run " + seed, x.atomic(0), want);
+            found[want]++;
+        }
+        DUE.yes("not atomic: " + found[0], found[0] > 100);
+        DUE.yes("atomic: " + found[1], found[1] > 100);
     }
 }

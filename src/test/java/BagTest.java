@@ -105,10 +105,7 @@ public final class BagTest {
         Looks.drain(x);
         x.begin(3, 7);
         x.change(0, 6);
-        for (int kind = 2; kind <= 3; kind++) {
-            Looks.ask(x, kind, 0, 0);
-            Looks.ask(x, kind, 1, 0);
-        }
+        Looks.bothRounds(x, 2, 0, 0, 1);
         Looks.loseAll(x);
         x.read(0, 0);
         DUE.row("server 2 does not know", Looks.map(x, false, 2), 7, 0, 0, 0, 0, 0);

@@ -549,40 +549,15 @@ final class FleetModel {
         if (r < 0 || r > 2) {
             return NONE;
         }
-        List<Job> all = new ArrayList<>();
+        List<Row.Entry> all = new ArrayList<>();
         for (Job j : jobs) {
             if (j.kind <= 1 && j.r == r) {
-                all.add(j);
+                all.add(new Row.Entry(j.kind == 1, j.kind == 1 ? j.v : j.result, j.begin, j.end));
             }
         }
         if (all.size() > 14) {
             return NONE;
         }
-        all.removeIf(j -> j.kind == 0 && j.end == 0);
-        return row(all, 0, 0, new HashSet<>()) ? 1 : 0;
-    }
-
-    /** Whether the rest can follow those in placed, when the register holds value. */
-    private static boolean row(List<Job> all, int placed, int value, Set<Long> failed) {
-        if (!failed.add(((long) placed << 32) + (value & 0xffffffffL))) {
-            return false;
-        }
-        boolean done = true;
-        for (int i = 0; i < all.size(); i++) {
-            Job j = all.get(i);
-            if ((placed >> i & 1) == 1) {
-                continue;
-            }
-            done &= j.end == 0;
-            boolean first = true;
-            for (int o = 0; o < all.size(); o++) {
-                Job other = all.get(o);
-                first &= (placed >> o & 1) == 1 || other.end == 0 || other.end > j.begin;
-            }
-            if (first && (j.kind == 1 || j.result == value) && row(all, placed | 1 << i, j.kind == 1 ? j.v : value, failed)) {
-                return true;
-            }
-        }
-        return done;
+        return Row.canBePut(all) ? 1 : 0;
     }
 }

@@ -292,10 +292,7 @@ public final class LimitTest {
         Fleet x = States.beaten(bad);
         Looks.ask(x, PREPARES, 2, 0);
         Looks.ask(x, PREPARES, 2, 1);
-        for (int kind = PREPARES; kind <= OFFERS; kind++) {
-            Looks.ask(x, kind, 1, 1);
-            Looks.ask(x, kind, 2, 1);
-        }
+        Looks.bothRounds(x, PREPARES, 1, 1, 2);
         Looks.pass(x, NEWS, 1, 1);
         return x;
     }
@@ -308,10 +305,7 @@ public final class LimitTest {
         Looks.ask(x, PREPARES, 1, 1);
         Looks.ask(x, PREPARES, 2, 0);
         Looks.ask(x, PREPARES, 2, 3);
-        for (int kind = PREPARES; kind <= OFFERS; kind++) {
-            Looks.ask(x, kind, 1, 3);
-            Looks.ask(x, kind, 2, 3);
-        }
+        Looks.bothRounds(x, PREPARES, 3, 1, 2);
         Looks.pass(x, NEWS, 1, 3);
         return x;
     }

@@ -77,6 +77,15 @@ final class Looks {
         pass(x, kind + 10, server, client);
     }
 
+    /** Delivers the questions of this kind, then those of the next one, to these servers, and each one's answer. */
+    static void bothRounds(Fleet x, int kind, int client, int... servers) {
+        for (int each = kind; each <= kind + 1; each++) {
+            for (int s : servers) {
+                ask(x, each, s, client);
+            }
+        }
+    }
+
     /** Delivers all, the oldest first. */
     static void drain(Fleet x) {
         for (int i = 0; i < 10_000 && x.bag() > 0; i++) {

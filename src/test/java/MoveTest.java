@@ -44,10 +44,7 @@ public final class MoveTest {
         Fleet x = new Fleet();
         x.begin(5, 7);
         x.change(0, 28);
-        for (int kind = 2; kind <= 3; kind++) {
-            Looks.ask(x, kind, 0, 0);
-            Looks.ask(x, kind, 1, 0);
-        }
+        Looks.bothRounds(x, 2, 0, 0, 1);
         Looks.loseAll(x);
         return x;
     }

@@ -379,7 +379,7 @@ public final class RefusalTest {
         taken(States::underWay, "run(1, 1000)", all, x -> x.run(1, 1000));
     }
 
-    /** "SERVER s STOPS for good: true; false if it has, or there is none such." */
+    /** SERVER s "STOPS for good: true; false if it has, or there is none such." */
     private static void stopTakesServersOnce() {
         for (int servers = 3; servers <= 7; servers++) {
             int count = servers;

@@ -32,7 +32,10 @@ public final class TermsTest {
         aServerPromisesAGreaterBallotAlone();
         aServerAcceptsABallotThatIsNotLess();
         aNewSetIsAskedAheadOfAFullRound();
+        aNewServerIsAskedInARoundThatIsFull();
         aMapEndsAChangeAheadOfAFullRound();
+        aChangeIsOvertakenAtEachNumber();
+        aChangeIsOvertakenByWhatIsGoneAgain();
         aMoveThatIsGoneEndsWithItsNumber();
         momentsCountFromOneOn();
         DUE.end();
@@ -91,20 +94,14 @@ public final class TermsTest {
         x.begin(4, 1);
         x.read(1, 0);
         x.read(0, 0);
-        for (int kind = ASKS; kind <= TELLS; kind++) {
-            Looks.ask(x, kind, 0, 0);
-        }
+        Looks.bothRounds(x, ASKS, 0, 0);
         x.change(0, 2);
-        for (int kind = PREPARES; kind <= OFFERS; kind++) {
-            Looks.ask(x, kind, 0, 0);
-        }
+        Looks.bothRounds(x, PREPARES, 0, 0);
         x.move(0);
         Looks.ask(x, SURVEYS, 0, 0);
         Looks.ask(x, HANDS, 1, 0);
         x.change(0, 14);
-        for (int kind = PREPARES; kind <= OFFERS; kind++) {
-            Looks.ask(x, kind, 1, 0);
-        }
+        Looks.bothRounds(x, PREPARES, 0, 1);
         x.move(0);
         Looks.ask(x, SURVEYS, 1, 0);
         Looks.ask(x, HANDS, 1, 0);
@@ -155,10 +152,7 @@ public final class TermsTest {
         x.read(1, 0);
         Looks.pass(x, ASKS, 0, 1);
         x.change(0, 6);
-        for (int kind = PREPARES; kind <= OFFERS; kind++) {
-            Looks.ask(x, kind, 1, 0);
-            Looks.ask(x, kind, 2, 0);
-        }
+        Looks.bothRounds(x, PREPARES, 0, 1, 2);
         x.move(0);
         Looks.ask(x, SURVEYS, 1, 0);
         Looks.ask(x, SURVEYS, 2, 0);
@@ -436,22 +430,13 @@ public final class TermsTest {
         Fleet x = new Fleet();
         x.begin(5, 7);
         x.read(1, 0);
-        for (int kind = ASKS; kind <= TELLS; kind++) {
-            Looks.ask(x, kind, 0, 1);
-            Looks.ask(x, kind, 2, 1);
-        }
+        Looks.bothRounds(x, ASKS, 1, 0, 2);
         x.write(1, 0, 10);
-        for (int kind = ASKS; kind <= TELLS; kind++) {
-            Looks.ask(x, kind, 1, 1);
-            Looks.ask(x, kind, 2, 1);
-        }
+        Looks.bothRounds(x, ASKS, 1, 1, 2);
         x.write(1, 0, 20);
         Looks.ask(x, ASKS, 0, 1);
         x.change(2, 25);
-        for (int kind = PREPARES; kind <= OFFERS; kind++) {
-            Looks.ask(x, kind, 1, 2);
-            Looks.ask(x, kind, 2, 2);
-        }
+        Looks.bothRounds(x, PREPARES, 2, 1, 2);
         x.move(2);
         Looks.ask(x, SURVEYS, 1, 2);
         Looks.ask(x, SURVEYS, 2, 2);
@@ -477,10 +462,7 @@ public final class TermsTest {
         DUE.same("it had none", x.cell(4, 0, 1), 20);
         DUE.row("the write has ended", Looks.operation(x, 2), 1, 1, 0, 20, 1, 20, 5, 10, 0);
         x.change(2, 16);
-        for (int kind = PREPARES; kind <= OFFERS; kind++) {
-            Looks.ask(x, kind, 0, 2);
-            Looks.ask(x, kind, 3, 2);
-        }
+        Looks.bothRounds(x, PREPARES, 2, 0, 3);
         x.move(2);
         Looks.ask(x, SURVEYS, 0, 2);
         Looks.ask(x, SURVEYS, 3, 2);
@@ -559,10 +541,7 @@ public final class TermsTest {
                 Looks.ask(x, ASKS, 1, 0);
             }
             x.change(1, 24);
-            for (int kind = PREPARES; kind <= OFFERS; kind++) {
-                Looks.ask(x, kind, 1, 1);
-                Looks.ask(x, kind, 2, 1);
-            }
+            Looks.bothRounds(x, PREPARES, 1, 1, 2);
             Looks.pass(x, NEWS, 2, 1);
             Looks.ask(x, round - 1, 1, 0);
             DUE.same("one answer of set 0", x.client(0, 2), 7);
@@ -572,6 +551,35 @@ public final class TermsTest {
             DUE.same("one of set 1", x.client(0, 3), 14);
             Looks.ask(x, round - 1, 4, 0);
             DUE.same("both", x.client(0, 4), round == 1 ? 2 : 0);
+        }
+    }
+
+    /** In this order: server 3 is asked in the round that ends with the same answer. */
+    private static void aNewServerIsAskedInARoundThatIsFull() {
+        for (int round = 1; round <= 2; round++) {
+            Fleet x = new Fleet();
+            x.begin(4, 7);
+            x.write(0, 0, 3);
+            if (round == 2) {
+                Looks.ask(x, ASKS, 0, 0);
+                Looks.ask(x, ASKS, 1, 0);
+            }
+            x.change(1, 14);
+            Looks.bothRounds(x, PREPARES, 1, 1, 2);
+            Looks.pass(x, NEWS, 2, 1);
+            Looks.ask(x, round - 1, 1, 0);
+            Looks.pass(x, round - 1, 2, 0);
+            int first = x.bag() - 1;
+            Looks.pass(x, round + 9, 2, 0);
+            int tag = round == 1 ? 0 : 4;
+            DUE.row("server 3 is asked", Looks.message(x, first), round - 1, 3, 0, round, 0, tag, round == 1 ? 0 : 3, 0);
+            if (round == 1) {
+                DUE.row("the next round", Looks.client(x, 0), 0, 2, 15, 0, 2, 4, 0);
+                DUE.same("asks all four", x.bag(), first + 5);
+            } else {
+                DUE.same("it has ended", x.operation(0, 4), 1);
+                DUE.same("nothing more is sent", x.bag(), first + 1);
+            }
         }
     }
 
@@ -612,23 +620,74 @@ public final class TermsTest {
         }
     }
 
+    /** Each set is server 0 alone; two clients know this many beyond the first, the earlier ones gone or not. */
+    private static Fleet twoThatKnow(int sets, int moved) {
+        Fleet x = new Fleet();
+        x.begin(3, 1);
+        for (int n = 0; n < sets; n++) {
+            x.change(0, 1);
+            x.run(n, 1000);
+        }
+        for (int n = 0; n < moved; n++) {
+            x.move(0);
+            x.run(n, 1000);
+        }
+        x.read(1, 0);
+        x.run(1, 1000);
+        DUE.row("the second knows what the first does", Looks.map(x, true, 1), Looks.map(x, true, 0));
+        return x;
+    }
+
+    /** "If k is GONE there at any time, or k + 1 has something: END", k from 0 to 4. */
+    private static void aChangeIsOvertakenAtEachNumber() {
+        for (int k = 0; k < 5; k++) {
+            for (int set = 1; set <= 2; set++) {
+                Fleet x = twoThatKnow(k, 0);
+                x.change(0, 2);
+                int second = x.change(1, set);
+                Looks.ask(x, PREPARES, 0, 0);
+                Looks.ask(x, OFFERS, 0, 0);
+                Looks.pass(x, NEWS, 0, 0);
+                DUE.same("the next number", x.map(false, 0, k + 1), 2);
+                int before = x.bag();
+                Looks.ask(x, PREPARES, 0, 1);
+                DUE.same("it has ended", x.operation(second, 4), 1);
+                DUE.same("with 1 if that is its own", x.operation(second, 5), set == 2 ? 1 : 0);
+                DUE.same("nothing is sent", x.bag(), before - 1);
+                DUE.same("its map", x.map(true, 1, k + 1), 2);
+            }
+        }
+    }
+
+    /** "else 0 (also if k + 1 is GONE)": number 5 is never gone, so k is 3 at the most. */
+    private static void aChangeIsOvertakenByWhatIsGoneAgain() {
+        for (int k = 0; k < 4; k++) {
+            Fleet x = twoThatKnow(k, k);
+            int second = x.change(1, 1);
+            for (int n = 0; n < 2; n++) {
+                x.change(0, 1);
+                Looks.bothRounds(x, PREPARES, 0, 0);
+                Looks.pass(x, NEWS, 0, 0);
+            }
+            for (int n = 0; n < 2; n++) {
+                x.move(0);
+                Looks.bothRounds(x, SURVEYS, 0, 0);
+                Looks.pass(x, NEWS, 0, 0);
+            }
+            DUE.same("k is gone", x.map(false, 0, k), GONE);
+            DUE.same("k + 1 is gone", x.map(false, 0, k + 1), GONE);
+            DUE.same("it has not ended", x.operation(second, 4), 0);
+            Looks.ask(x, PREPARES, 0, 1);
+            DUE.same("it has ended", x.operation(second, 4), 1);
+            DUE.same("with 0", x.operation(second, 5), 0);
+            DUE.same("none counted", x.operation(second, 8), 0);
+        }
+    }
+
     /** "If k is GONE, it has ended, with k." */
     private static void aMoveThatIsGoneEndsWithItsNumber() {
         for (int k = 0; k < 5; k++) {
-            Fleet x = new Fleet();
-            x.begin(3, 1);
-            for (int n = 0; n < 5; n++) {
-                x.change(0, 1);
-                x.run(n, 1000);
-            }
-            x.read(1, 0);
-            x.run(1, 1000);
-            for (int n = 0; n < k; n++) {
-                x.move(0);
-                x.run(n, 1000);
-            }
-            x.read(1, 0);
-            x.run(2, 1000);
+            Fleet x = twoThatKnow(5, k);
             int first = x.move(0);
             int second = x.move(1);
             Looks.ask(x, SURVEYS, 0, 0);
