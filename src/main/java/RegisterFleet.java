@@ -500,7 +500,7 @@ public final class RegisterFleet {
 
     /** A TAG or BALLOT is a mark; what it stands for, a value or a SET, is its content. */
     private static final class Message {
-        final SetMap map = new SetMap();
+        final SetMap map;
         final int[] marks = new int[REGISTERS];
         final int[] contents = new int[REGISTERS];
         int kind;
@@ -509,6 +509,10 @@ public final class RegisterFleet {
         int round;
         int subject;
         boolean bad;
+
+        Message(SetMap map) {
+            this.map = map;
+        }
 
         void clear() {
             Arrays.fill(marks, 0);
@@ -561,7 +565,7 @@ public final class RegisterFleet {
         }
 
         Message post(int kind, int server, int client, SetMap senders) {
-            Message posted = spare.isEmpty() ? new Message() : spare.remove(spare.size() - 1);
+            Message posted = spare.isEmpty() ? new Message(new SetMap()) : spare.remove(spare.size() - 1);
             posted.clear();
             posted.kind = kind;
             posted.server = server;

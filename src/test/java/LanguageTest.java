@@ -15,6 +15,7 @@ public final class LanguageTest {
     private static final Due DUE = new Due("LanguageTest");
     private static final Path FILE = Path.of("src", "main", "java", "RegisterFleet.java");
     private static final int LONGEST_METHOD = 60;
+    private static final int DEEPEST = 8;
 
     private LanguageTest() {
     }
@@ -26,6 +27,10 @@ public final class LanguageTest {
         onlyTheLibrary(code);
         methodsAreShort(code);
         classesAreSmall();
+        Source read = Source.of(FILE);
+        onlyListedCalls(read);
+        onlyListedTypes(read);
+        callsStayFlat(read);
         DUE.end();
     }
 
@@ -51,11 +56,6 @@ public final class LanguageTest {
         Set<String> allowed = Set.of("java.util.ArrayList", "java.util.Arrays", "java.util.List");
         while (imports.find()) {
             DUE.yes("import " + imports.group(1), allowed.contains(imports.group(1)));
-        }
-        Matcher calls = Pattern.compile("\\b(Arrays|System|Math|Integer|Long)\\.(\\w+)").matcher(code);
-        Set<String> listed = Set.of("fill", "copyOf", "copyOfRange", "arraycopy", "min", "max", "bitCount", "abs", "compare");
-        while (calls.find()) {
-            DUE.yes("call " + calls.group(), listed.contains(calls.group(2)));
         }
     }
 
@@ -95,6 +95,37 @@ public final class LanguageTest {
             if (Modifier.isPrivate(each.getModifiers())) {
                 DUE.no("a public one's name: " + each, open.contains(each.getName()));
             }
+        }
+    }
+
+    /** Rule 4; remove(int) is told from remove(Object). */
+    private static void onlyListedCalls(Source read) {
+        Set<String> listed = Set.of(
+            "java.util.ArrayList.new", "java.util.ArrayList.add(E)", "java.util.ArrayList.get(int)",
+            "java.util.ArrayList.remove(int)", "java.util.ArrayList.size()", "java.util.ArrayList.isEmpty()",
+            "java.util.ArrayList.clear()", "java.util.Arrays.fill(int[],int)", "java.lang.Integer.bitCount(int)",
+            "java.lang.Math.min(int,int)",
+            "java.lang.System.arraycopy(java.lang.Object,int,java.lang.Object,int,int)");
+        DUE.no("no call of the library was seen", read.library.isEmpty());
+        for (String each : read.library) {
+            DUE.yes("call " + each, listed.contains(each));
+        }
+    }
+
+    /** Rule 3. */
+    private static void onlyListedTypes(Source read) {
+        DUE.no("no type was seen", read.types.isEmpty());
+        for (String each : read.types) {
+            DUE.yes("type " + each, each.matches("(int|boolean)|int\\[\\](\\[\\])?"
+                + "|RegisterFleet\\.\\w+(\\[\\])?|java\\.util\\.ArrayList<RegisterFleet\\.\\w+>"));
+        }
+    }
+
+    /** Rules 8 and 11: nothing calls itself, and a call of the library may stand on top of each. */
+    private static void callsStayFlat(Source read) {
+        DUE.yes("methods that were seen", read.calls.size() > 19);
+        for (String each : read.calls.keySet()) {
+            DUE.yes("flat: " + each + " goes " + read.depth(each) + " deep", read.depth(each) < DEEPEST);
         }
     }
 }
